@@ -199,30 +199,25 @@ public final class CodedGroups {
         }
 
         private static int behindSix(int six, int lean) {
-            if (six == 0b000111) {
+            int ones = Integer.bitCount(six);
+            if (ones > 3 || six == 0b000111) {
                 return PLUS;
             }
-            if (six == 0b111000) {
+            if (ones < 3 || six == 0b111000) {
                 return MINUS;
             }
-            return behindOnes(Integer.bitCount(six), 3, lean);
+            return lean;
         }
 
         private static int behindFour(int four, int lean) {
-            if (four == 0b0011) {
+            int ones = Integer.bitCount(four);
+            if (ones > 2 || four == 0b0011) {
                 return PLUS;
             }
-            if (four == 0b1100) {
+            if (ones < 2 || four == 0b1100) {
                 return MINUS;
             }
-            return behindOnes(Integer.bitCount(four), 2, lean);
-        }
-
-        private static int behindOnes(int ones, int half, int lean) {
-            if (ones == half) {
-                return lean;
-            }
-            return ones > half ? PLUS : MINUS;
+            return lean;
         }
 
         /** The disparity behind any ten bits, be they a symbol's group or not. */
@@ -420,27 +415,26 @@ public final class CodedGroups {
             if (windowBits < GROUP_BITS) {
                 return;
             }
+            boolean comma = Code.isComma(window);
             if (rank > 0) {
-                laterGroup();
-            } else if (Code.isComma(window)) {
-                firstGroup();
+                laterGroup(readGroup(), comma);
+            } else if (comma) {
+                lean = Code.leanBeforeComma(window);
+                firstGroup(readGroup());
             }
         }
 
-        private void firstGroup() {
+        private void firstGroup(int what) {
             even = true;
-            lean = Code.leanBeforeComma(window);
-            if (readGroup() == NONE) {
+            if (what == NONE) {
                 searchAgain();
             } else {
                 rank = 1;
             }
         }
 
-        private void laterGroup() {
+        private void laterGroup(int what, boolean comma) {
             even = !even;
-            boolean comma = Code.isComma(window);
-            int what = readGroup();
             boolean fault = what == NONE || (comma && !even);
             if (rank < IN_STEP) {
                 climb(comma, fault);
@@ -530,8 +524,8 @@ public final class CodedGroups {
 
     /**
      * The frames that have ended, and the one that is under way. That one is written into the
-     * slot behind the newest ended one, so ending it moves no bytes: hence one slot more than
-     * frames are kept.
+     * slot behind the newest ended one (round the row's end), so ending it moves no bytes: hence
+     * one slot more than frames are kept.
      */
     private static final class FrameShelf {
         private static final int MOST = 40;
@@ -545,7 +539,7 @@ public final class CodedGroups {
         private final int[] words = new int[SLOTS * SLOT_WORDS];
         private final int[] lengths = new int[SLOTS];
         private final boolean[] wholes = new boolean[SLOTS];
-        private int oldest = 0;
+        private int slot = 0;
         private int kept = 0;
         private int state = NO_FRAME;
         private boolean broken = false;
@@ -585,13 +579,12 @@ public final class CodedGroups {
         }
 
         private void begin() {
-            lengths[slotOf(kept)] = 0;
+            lengths[slot] = 0;
             broken = false;
             state = OPEN;
         }
 
         private void addByte(int b) {
-            int slot = slotOf(kept);
             int i = lengths[slot];
             if (i < 0 || i >= BYTES_MOST) {
                 broken = true;
@@ -604,7 +597,8 @@ public final class CodedGroups {
         }
 
         private void finish(boolean asWhole) {
-            wholes[slotOf(kept)] = asWhole;
+            wholes[slot] = asWhole;
+            slot = slot + 1 < SLOTS ? slot + 1 : 0;
             state = NO_FRAME;
             ended++;
             if (asWhole) {
@@ -612,14 +606,12 @@ public final class CodedGroups {
             }
             if (kept < MOST) {
                 kept++;
-            } else {
-                oldest = slotOf(1);
             }
         }
 
-        /** The slot so many frames behind the oldest; floorMod, as it is an index for any k. */
+        /** The slot of the k-th kept frame; floorMod makes it an index whatever k is. */
         private int slotOf(int k) {
-            return Math.floorMod(oldest + k, SLOTS);
+            return Math.floorMod(slot - kept + k, SLOTS);
         }
 
         private boolean has(int k) {

@@ -48,6 +48,9 @@ public final class CodeTest {
         PlainModel m = new PlainModel();
         int[] found = new int[2];
         for (int group = 0; group < 1024; group++) {
+            if (group % 256 == 0) {
+                x = new CodedGroups(); // an object is good for 512 calls
+            }
             for (int lean = -1; lean <= 1; lean += 2) {
                 int got = x.decode(group, lean);
                 CHECK.due("decode(" + group + ", " + lean + ")", got, m.decode(group, lean));
