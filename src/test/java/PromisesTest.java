@@ -399,6 +399,14 @@ public final class PromisesTest {
         takeAll(x);
         due("bits that it searches do not move it", x.disparity(1), 1);
         due("those of the sending end neither", x.disparity(0), -1);
+        CodedGroups y = inStep();
+        String[] even = {"000111 0101", "111000 0101", "010101 0011", "010101 1100"};
+        for (int i = 0; i < even.length; i++) {
+            bits(y, even[i]);
+            takeAll(y);
+            due("bad groups turn it by " + even[i], y.disparity(1), i % 2 == 0 ? 1 : -1);
+            due("and are bad", y.count(2), i + 1);
+        }
     }
 
     // Promise 12
@@ -825,6 +833,9 @@ public final class PromisesTest {
         takeAll(y);
         dueFrame("one behind it", y, 1, 1, true);
         due("at(1, 0)", y.at(1, 0), 77);
+        for (int i = 0; i < 300; i += 4) {
+            due("at(0, " + i + ") stays", y.at(0, i), i % 251);
+        }
     }
 
     private static void framesKept() {
