@@ -42,18 +42,10 @@ public final class PromisesTest {
         CHECK.due(what, got, want);
     }
 
-    /** Bits behind the line, spaces left out. */
-    private static void bits(CodedGroups x, String some) {
-        for (char c : some.toCharArray()) {
-            if (c != ' ') {
-                due("bit(" + c + ")", x.bit(c - '0'), true);
-            }
-        }
-    }
-
-    private static void dueLine(String what, CodedGroups x, String want) {
+    private static void dueLine(String what, Run x, String want) {
         StringBuilder got = new StringBuilder();
-        for (int i = 0; i < x.size(); i++) {
+        int size = x.size();
+        for (int i = 0; i < size; i++) {
             got.append(x.line(i));
         }
         String plain = want.replace(" ", "");
@@ -63,52 +55,22 @@ public final class PromisesTest {
         due(what, got.toString().equals(plain), true);
     }
 
-    /** Each such frame is four groups long, as so many are sent before. */
-    private static CodedGroups withEmptyFrames(int n) {
-        CodedGroups x = new CodedGroups();
-        for (int i = 0; i < n; i++) {
-            due("an empty frame()", x.frame(), 4);
-        }
-        return x;
+    private static Run withEmptyFrames(int n) {
+        return new Run(CHECK).emptyFrames(n);
     }
 
-    /** Level 3, trust 4, both disparities -, the next group at an even place, one symbol received. */
-    private static CodedGroups inStep() {
-        CodedGroups x = new CodedGroups();
-        for (int i = 0; i < 3; i++) {
-            due("idle()", x.idle(), true);
-        }
-        due("take(60)", x.take(60), 60);
-        due("level() behind three commas", x.level(), 3);
-        return x;
+    private static Run inStep() {
+        return Run.inStep(CHECK);
     }
 
-    private static void sign(CodedGroups x, int v) {
-        due("send(" + v + ", true)", x.send(v, true) >= 0, true);
-    }
-
-    private static void plain(CodedGroups x, int v) {
-        due("send(" + v + ", false)", x.send(v, false) >= 0, true);
-    }
-
-    /** A group that is none with either disparity, and leaves it -: its four are 0000. */
-    private static void bad(CodedGroups x) {
-        bits(x, "1111110000");
-    }
-
-    private static void takeAll(CodedGroups x) {
-        int n = x.size();
-        due("take(8000)", x.take(8000), n);
-    }
-
-    private static void dueFrame(String what, CodedGroups x, int k, int length, boolean whole) {
+    private static void dueFrame(String what, Run x, int k, int length, boolean whole) {
         due(what + ": length(" + k + ")", x.length(k), length);
         due(what + ": whole(" + k + ")", x.whole(k), whole);
     }
 
     // Promise 1
     private static void newObject() {
-        CodedGroups x = new CodedGroups();
+        Run x = new Run(CHECK);
         due("size() at first", x.size(), 0);
         due("line(0) at first", x.line(0), -1);
         due("level() at first", x.level(), 0);
@@ -126,7 +88,7 @@ public final class PromisesTest {
 
     // Promise 2
     private static void send() {
-        CodedGroups x = new CodedGroups();
+        Run x = new Run(CHECK);
         due("send(0) with -", x.send(0, false), 0b1001110100);
         due("send(188, sign) with -", x.send(188, true), 0b0011111010);
         due("send(188, sign) with +", x.send(188, true), 0b1100000101);
@@ -150,8 +112,8 @@ public final class PromisesTest {
     }
 
     private static void sendWithoutRoom() {
-        CodedGroups x = withEmptyFrames(199);
-        bits(x, "0101010101 0101010101 0101010101 1");
+        Run x = withEmptyFrames(199);
+        x.bits("0101010101 0101010101 0101010101 1");
         int lean = x.disparity(0);
         due("send with 9 bits of room", x.send(32, false), -1);
         due("size() behind no room", x.size(), 7991);
@@ -165,19 +127,19 @@ public final class PromisesTest {
 
     // Promise 3
     private static void idle() {
-        CodedGroups x = new CodedGroups();
+        Run x = new Run(CHECK);
         due("idle() with -", x.idle(), true);
         dueLine("idle with -", x, "0011111010 1001000101");
         due("disparity(0) behind idle", x.disparity(0), -1);
         due("count(0) behind idle", x.count(0), 2);
-        CodedGroups y = new CodedGroups();
+        Run y = new Run(CHECK);
         due("send(32)", y.send(32, false), 0b1001111001);
         due("disparity(0)", y.disparity(0), 1);
         due("idle() with +", y.idle(), true);
         dueLine("idle with +", y, "1001111001 1100000101 1010010110");
         due("disparity(0) behind idle with +", y.disparity(0), -1);
-        CodedGroups z = withEmptyFrames(199);
-        bits(z, "0101010101 0101010101 1");
+        Run z = withEmptyFrames(199);
+        z.bits("0101010101 0101010101 1");
         due("idle() with 19 bits of room", z.idle(), false);
         due("size() behind no room", z.size(), 7981);
         due("count(0) behind no room", z.count(0), 796);
@@ -188,7 +150,7 @@ public final class PromisesTest {
 
     // Promise 4
     private static void feed() {
-        CodedGroups x = new CodedGroups();
+        Run x = new Run(CHECK);
         int[] none = {-1, 256, Integer.MIN_VALUE, Integer.MAX_VALUE};
         for (int b : none) {
             due("feed(" + b + ")", x.feed(b), false);
@@ -208,7 +170,7 @@ public final class PromisesTest {
 
     // Promise 5
     private static void frame() {
-        CodedGroups x = new CodedGroups();
+        Run x = new Run(CHECK);
         x.feed(0);
         due("frame() of one byte", x.frame(), 4);
         dueLine("a frame", x, "1101101000 1001110100 1011101000 1110101000");
@@ -220,7 +182,7 @@ public final class PromisesTest {
         due("frame() behind eight", x.frame(), 4);
         due("count(0) behind them", x.count(0), 12);
         due("count(5): sending ends none", x.count(5), 0);
-        CodedGroups y = new CodedGroups();
+        Run y = new Run(CHECK);
         y.feed(74);
         y.feed(74);
         due("frame() of two bytes", y.frame(), 6);
@@ -229,7 +191,7 @@ public final class PromisesTest {
     }
 
     private static void frameWithoutRoom() {
-        CodedGroups x = withEmptyFrames(198);
+        Run x = withEmptyFrames(198);
         for (int b = 1; b <= 5; b++) {
             due("feed(" + b + ")", x.feed(b), true);
         }
@@ -241,7 +203,7 @@ public final class PromisesTest {
         due("frame(), the tape having stayed", x.frame(), 8);
         due("size() of a full line", x.size(), 8000);
         due("frame() with no room", x.frame(), -1);
-        CodedGroups y = withEmptyFrames(198);
+        Run y = withEmptyFrames(198);
         for (int b = 1; b <= 4; b++) {
             due("feed(" + b + ")", y.feed(b), true);
         }
@@ -253,7 +215,7 @@ public final class PromisesTest {
 
     // Promise 6
     private static void bit() {
-        CodedGroups x = new CodedGroups();
+        Run x = new Run(CHECK);
         due("bit(1)", x.bit(1), true);
         due("bit(0)", x.bit(0), true);
         due("bit(2)", x.bit(2), false);
@@ -263,8 +225,8 @@ public final class PromisesTest {
         dueLine("bits", x, "10");
         due("count(0) behind bits", x.count(0), 0);
         due("disparity(0) behind bits", x.disparity(0), -1);
-        CodedGroups y = withEmptyFrames(199);
-        bits(y, "0110100101 0110100101 0110100101 011010010");
+        Run y = withEmptyFrames(199);
+        y.bits("0110100101 0110100101 0110100101 011010010");
         due("size()", y.size(), 7999);
         due("bit(1), the last that has room", y.bit(1), true);
         due("bit(1) with no room", y.bit(1), false);
@@ -273,9 +235,9 @@ public final class PromisesTest {
 
     // Promise 7
     private static void turn() {
-        CodedGroups x = new CodedGroups();
+        Run x = new Run(CHECK);
         due("turn(0) of none", x.turn(0), false);
-        bits(x, "1010");
+        x.bits("1010");
         due("turn(0)", x.turn(0), true);
         due("turn(3)", x.turn(3), true);
         dueLine("turned", x, "0011");
@@ -286,7 +248,7 @@ public final class PromisesTest {
             due("turn(" + i + ")", x.turn(i), false);
         }
         dueLine("turned by no such number", x, "0010");
-        CodedGroups full = withEmptyFrames(200);
+        Run full = withEmptyFrames(200);
         int last = full.line(7999);
         due("turn(7999)", full.turn(7999), true);
         due("line(7999)", full.line(7999), 1 - last);
@@ -295,9 +257,9 @@ public final class PromisesTest {
 
     // Promise 8
     private static void drop() {
-        CodedGroups x = new CodedGroups();
+        Run x = new Run(CHECK);
         due("drop(0) of none", x.drop(0), false);
-        bits(x, "1001101");
+        x.bits("1001101");
         due("drop(0)", x.drop(0), true);
         dueLine("front bit left out", x, "001101");
         due("drop(5)", x.drop(5), true);
@@ -308,9 +270,9 @@ public final class PromisesTest {
         for (int i : WILD) {
             due("drop(" + i + ")", x.drop(i), false);
         }
-        bits(x, "1");
+        x.bits("1");
         dueLine("bit behind those left", x, "00101");
-        CodedGroups full = withEmptyFrames(200);
+        Run full = withEmptyFrames(200);
         due("drop(8000)", full.drop(8000), false);
         due("drop(7999)", full.drop(7999), true);
         due("drop(0)", full.drop(0), true);
@@ -320,9 +282,9 @@ public final class PromisesTest {
 
     // Promise 9
     private static void line() {
-        CodedGroups x = new CodedGroups();
+        Run x = new Run(CHECK);
         due("line(0) of none", x.line(0), -1);
-        bits(x, "01");
+        x.bits("01");
         due("line(0)", x.line(0), 0);
         due("line(1)", x.line(1), 1);
         due("line(2)", x.line(2), -1);
@@ -332,14 +294,14 @@ public final class PromisesTest {
         x.take(1);
         due("line(0) behind take", x.line(0), 1);
         due("line(1) behind take", x.line(1), -1);
-        CodedGroups full = withEmptyFrames(200);
+        Run full = withEmptyFrames(200);
         due("line(7999)", full.line(7999) >= 0, true);
         due("line(8000)", full.line(8000), -1);
     }
 
     // Promise 10
     private static void size() {
-        CodedGroups x = new CodedGroups();
+        Run x = new Run(CHECK);
         x.bit(1);
         due("size() of a bit", x.size(), 1);
         x.send(5, false);
@@ -360,7 +322,7 @@ public final class PromisesTest {
 
     // Promise 11
     private static void disparity() {
-        CodedGroups x = new CodedGroups();
+        Run x = new Run(CHECK);
         int[] none = {-1, 2, 3, Integer.MIN_VALUE, Integer.MAX_VALUE};
         for (int which : none) {
             due("disparity(" + which + ")", x.disparity(which), 0);
@@ -382,28 +344,23 @@ public final class PromisesTest {
     }
 
     private static void disparityOfReceiver() {
-        CodedGroups x = new CodedGroups();
-        bits(x, "0011111010 1010110100");
-        takeAll(x);
+        Run x = new Run(CHECK);
+        x.bits("0011111010 1010110100").takeAll();
         due("receiver behind a bad group with 110100", x.level(), 0);
         due("it goes on by the bits of a bad group", x.disparity(1), -1);
-        bits(x, "1100000111");
-        takeAll(x);
+        x.bits("1100000111").takeAll();
         due("first group with 1100000 goes by +, though it was -", x.level(), 1);
         due("disparity behind it", x.disparity(1), 1);
-        bits(x, "1111111111");
-        takeAll(x);
+        x.bits("1111111111").takeAll();
         due("level() behind a bad group", x.level(), 0);
         due("while it searches it stays", x.disparity(1), 1);
-        bits(x, "0000000000");
-        takeAll(x);
+        x.bits("0000000000").takeAll();
         due("bits that it searches do not move it", x.disparity(1), 1);
         due("those of the sending end neither", x.disparity(0), -1);
-        CodedGroups y = inStep();
+        Run y = inStep();
         String[] even = {"000111 0101", "111000 0101", "010101 0011", "010101 1100"};
         for (int i = 0; i < even.length; i++) {
-            bits(y, even[i]);
-            takeAll(y);
+            y.bits(even[i]).takeAll();
             due("bad groups turn it by " + even[i], y.disparity(1), i % 2 == 0 ? 1 : -1);
             due("and are bad", y.count(2), i + 1);
         }
@@ -411,8 +368,8 @@ public final class PromisesTest {
 
     // Promise 12
     private static void take() {
-        CodedGroups x = new CodedGroups();
-        bits(x, "110100111");
+        Run x = new Run(CHECK);
+        x.bits("110100111");
         due("take(8001)", x.take(8001), -1);
         for (int n : WILD) {
             due("take(" + n + ")", x.take(n), -1);
@@ -424,122 +381,96 @@ public final class PromisesTest {
         dueLine("behind take(2)", x, "0100111");
         due("take(7), as many as there are", x.take(7), 7);
         due("take(1) of none", x.take(1), 0);
-        bits(x, "10");
+        x.bits("10");
         due("take(8000) of two", x.take(8000), 2);
         due("size()", x.size(), 0);
-        CodedGroups full = withEmptyFrames(200);
+        Run full = withEmptyFrames(200);
         due("take(8000) of 8000", full.take(8000), 8000);
         due("size() behind it", full.size(), 0);
     }
 
     // Promise 13
     private static void levelWhileSearching() {
-        CodedGroups x = new CodedGroups();
-        bits(x, "101 0011111010");
+        Run x = new Run(CHECK);
+        x.bits("101 0011111010");
         x.take(12);
         due("level() before the tenth bit of a comma's group", x.level(), 0);
         x.take(1);
         due("level() with the first group", x.level(), 1);
         due("count(1): three bits before it are no group", x.count(1), 1);
-        CodedGroups few = new CodedGroups();
-        bits(few, "011111010");
-        takeAll(few);
+        Run few = new Run(CHECK);
+        few.bits("011111010").takeAll();
         due("level() with nine bits taken", few.level(), 0);
-        CodedGroups y = new CodedGroups();
-        bits(y, "1100000101");
-        takeAll(y);
+        Run y = new Run(CHECK);
+        y.bits("1100000101").takeAll();
         due("level() with the other comma", y.level(), 1);
-        CodedGroups z = new CodedGroups();
-        bits(z, "0011111111");
-        takeAll(z);
+        Run z = new Run(CHECK);
+        z.bits("0011111111").takeAll();
         due("level() behind a bad first group", z.level(), 0);
         due("count(1) behind it", z.count(1), 1);
         due("count(2) behind it", z.count(2), 1);
         due("count(3) behind it", z.count(3), 1);
-        bits(z, "00000101");
-        takeAll(z);
+        z.bits("00000101").takeAll();
         due("the bits of a bad first group are not looked at again", z.level(), 0);
-        bits(z, "11000001");
-        takeAll(z);
+        z.bits("11000001").takeAll();
         due("level() before that group is whole", z.level(), 0);
-        bits(z, "01");
-        takeAll(z);
+        z.bits("01").takeAll();
         due("level() with a first group behind a bad one", z.level(), 1);
     }
 
     private static void levelClimbing() {
-        CodedGroups x = new CodedGroups();
-        sign(x, 188);
-        plain(x, 74);
-        plain(x, 74);
-        takeAll(x);
+        Run x = new Run(CHECK);
+        x.sign(188).plain(74, 74).takeAll();
         due("level() behind good groups without a comma", x.level(), 1);
-        plain(x, 74);
-        sign(x, 60);
-        takeAll(x);
+        x.plain(74).sign(60).takeAll();
         due("level() with a second comma at an even place", x.level(), 2);
-        plain(x, 74);
-        sign(x, 252);
-        takeAll(x);
+        x.plain(74).sign(252).takeAll();
         due("level() with a third", x.level(), 3);
-        plain(x, 74);
-        sign(x, 188);
-        takeAll(x);
+        x.plain(74).sign(188).takeAll();
         due("level() with a fourth", x.level(), 3);
         levelLost();
     }
 
     private static void levelLost() {
-        CodedGroups x = new CodedGroups();
-        sign(x, 188);
-        sign(x, 188);
-        takeAll(x);
+        Run x = new Run(CHECK);
+        x.sign(188, 188).takeAll();
         due("level() 1 behind a comma at an odd place", x.level(), 0);
         due("count(3)", x.count(3), 1);
         due("count(2): it was good", x.count(2), 0);
-        CodedGroups y = new CodedGroups();
+        Run y = new Run(CHECK);
         y.idle();
-        sign(y, 188);
-        bad(y);
+        y.sign(188).bad();
         y.take(30);
         due("level() before a bad group", y.level(), 2);
-        takeAll(y);
+        y.takeAll();
         due("level() 2 behind a bad group", y.level(), 0);
         due("count(3)", y.count(3), 1);
         due("count(2)", y.count(2), 1);
-        CodedGroups z = new CodedGroups();
+        Run z = new Run(CHECK);
         z.idle();
-        sign(z, 188);
-        sign(z, 188);
-        takeAll(z);
+        z.sign(188, 188).takeAll();
         due("level() 2 behind a comma at an odd place", z.level(), 0);
-        CodedGroups w = new CodedGroups();
+        Run w = new Run(CHECK);
         w.idle();
-        bits(w, "1100000101");
-        takeAll(w);
+        w.bits("1100000101").takeAll();
         due("level() 1 behind a bad group with a comma at an even place", w.level(), 0);
     }
 
     // Promise 14
     private static void trustLost() {
-        CodedGroups x = new CodedGroups();
+        Run x = new Run(CHECK);
         x.idle();
-        sign(x, 188);
-        takeAll(x);
+        x.sign(188).takeAll();
         due("trust() at level 2", x.trust(), 0);
-        plain(x, 80);
-        sign(x, 188);
-        takeAll(x);
+        x.plain(80).sign(188).takeAll();
         due("trust() with level 3", x.trust(), 4);
-        CodedGroups y = inStep();
+        Run y = inStep();
         for (int left = 3; left > 0; left--) {
-            bad(y);
-            takeAll(y);
+            y.bad().takeAll();
             due("trust() behind a bad group", y.trust(), left);
             due("level() behind it", y.level(), 3);
         }
-        bad(y);
-        takeAll(y);
+        y.bad().takeAll();
         due("trust() behind the fourth bad group", y.trust(), 0);
         due("level() behind it", y.level(), 0);
         due("count(3)", y.count(3), 1);
@@ -548,103 +479,84 @@ public final class PromisesTest {
     }
 
     private static void trustAtOddPlaces() {
-        CodedGroups x = inStep();
-        plain(x, 74);
-        sign(x, 188);
-        takeAll(x);
+        Run x = inStep();
+        x.plain(74).sign(188).takeAll();
         due("trust() behind a comma at an odd place", x.trust(), 3);
         due("it is a good group all the same", x.count(2), 0);
         due("and received", x.symbol(0), 444);
-        sign(x, 188);
-        takeAll(x);
+        x.sign(188).takeAll();
         due("trust() behind one at an even place", x.trust(), 3);
-        CodedGroups y = inStep();
-        plain(y, 74);
-        bits(y, "1100000101");
-        takeAll(y);
+        Run y = inStep();
+        y.plain(74).bits("1100000101").takeAll();
         due("one bad with a comma at an odd place takes 1", y.trust(), 3);
         due("and is bad", y.count(2), 1);
     }
 
     private static void trustRegained() {
-        CodedGroups x = inStep();
-        bad(x);
-        bad(x);
-        takeAll(x);
+        Run x = inStep();
+        x.bad().bad().takeAll();
         due("trust() behind two bad groups", x.trust(), 2);
         for (int i = 1; i <= 3; i++) {
-            plain(x, 74);
+            x.plain(74);
         }
-        takeAll(x);
+        x.takeAll();
         due("trust() behind three good ones", x.trust(), 2);
-        plain(x, 74);
-        takeAll(x);
+        x.plain(74).takeAll();
         due("trust() behind the fourth", x.trust(), 3);
         for (int i = 1; i <= 3; i++) {
-            plain(x, 74);
+            x.plain(74);
         }
-        bad(x);
-        takeAll(x);
+        x.bad().takeAll();
         due("trust() behind three good ones and a bad one", x.trust(), 2);
         for (int i = 1; i <= 3; i++) {
-            plain(x, 74);
+            x.plain(74);
         }
-        takeAll(x);
+        x.takeAll();
         due("three behind a bad one: the row began anew", x.trust(), 2);
         for (int i = 1; i <= 5; i++) {
-            plain(x, 74);
+            x.plain(74);
         }
-        takeAll(x);
+        x.takeAll();
         due("trust() behind eight in a row", x.trust(), 4);
         for (int i = 1; i <= 8; i++) {
-            plain(x, 74);
+            x.plain(74);
         }
-        takeAll(x);
+        x.takeAll();
         due("trust() is 4 at most", x.trust(), 4);
-        bad(x);
-        takeAll(x);
+        x.bad().takeAll();
         due("trust() behind a bad one then", x.trust(), 3);
         commaAtOddPlaceEndsRow();
     }
 
     private static void commaAtOddPlaceEndsRow() {
-        CodedGroups x = inStep();
-        bad(x);
-        plain(x, 74);
-        plain(x, 74);
-        sign(x, 188);
-        takeAll(x);
+        Run x = inStep();
+        x.bad().plain(74, 74).sign(188).takeAll();
         due("trust() behind a bad group and a comma at an odd place", x.trust(), 2);
         for (int i = 1; i <= 3; i++) {
-            plain(x, 74);
+            x.plain(74);
         }
-        takeAll(x);
+        x.takeAll();
         due("trust() behind three good ones", x.trust(), 2);
-        plain(x, 74);
-        takeAll(x);
+        x.plain(74).takeAll();
         due("trust() behind the fourth", x.trust(), 3);
-        CodedGroups again = inStep();
+        Run again = inStep();
         for (int i = 0; i < 4; i++) {
-            bad(again);
+            again.bad();
         }
         again.idle();
         again.idle();
         again.idle();
-        takeAll(again);
+        again.takeAll();
         due("trust() of a second step", again.trust(), 4);
         due("level() of it", again.level(), 3);
     }
 
     // Promise 15
     private static void symbol() {
-        CodedGroups x = inStep();
+        Run x = inStep();
         due("symbol(0) behind the group that brought level 3", x.symbol(0), 80);
         due("symbol(1): that one is not received", x.symbol(1), -1);
-        plain(x, 0);
-        plain(x, 255);
-        sign(x, 28);
-        bad(x);
-        takeAll(x);
+        x.plain(0, 255).sign(28).bad().takeAll();
         due("symbol(0), bad", x.symbol(0), 512);
         due("symbol(1), a sign", x.symbol(1), 256 + 28);
         due("symbol(2)", x.symbol(2), 255);
@@ -654,16 +566,14 @@ public final class PromisesTest {
         for (int k : WILD) {
             due("symbol(" + k + ")", x.symbol(k), -1);
         }
-        CodedGroups y = inStep();
+        Run y = inStep();
         for (int v = 0; v < 98; v++) {
-            plain(y, v);
+            y.plain(v);
         }
-        takeAll(y);
+        y.takeAll();
         due("symbol(98) of 99", y.symbol(98), 80);
         due("symbol(99) of 99", y.symbol(99), -1);
-        plain(y, 98);
-        plain(y, 99);
-        takeAll(y);
+        y.plain(98, 99).takeAll();
         due("symbol(0) of 101", y.symbol(0), 99);
         due("symbol(1) of 101", y.symbol(1), 98);
         due("symbol(99) of 101", y.symbol(99), 0);
@@ -672,20 +582,19 @@ public final class PromisesTest {
     }
 
     private static void symbolsReceivedInStepAlone() {
-        CodedGroups x = new CodedGroups();
+        Run x = new Run(CHECK);
         x.idle();
         x.idle();
-        sign(x, 188);
-        takeAll(x);
+        x.sign(188).takeAll();
         due("level() with the third comma", x.level(), 3);
         due("count(7) with it", x.count(7), 0);
         due("symbol(0) with it", x.symbol(0), -1);
-        CodedGroups y = inStep();
+        Run y = inStep();
         for (int i = 0; i < 4; i++) {
-            bad(y);
+            y.bad();
         }
         y.idle();
-        takeAll(y);
+        y.takeAll();
         due("count(7): what comes out of step is not received", y.count(7), 5);
         due("symbol(0): what was received stays", y.symbol(0), 512);
         due("symbol(4)", y.symbol(4), 80);
@@ -693,7 +602,7 @@ public final class PromisesTest {
 
     // Promises 16 and 17
     private static void framesWhole() {
-        CodedGroups x = inStep();
+        Run x = inStep();
         x.feed(0);
         x.feed(255);
         x.feed(188);
@@ -701,7 +610,7 @@ public final class PromisesTest {
         x.take(50);
         due("count(4) before the end", x.count(4), 0);
         due("length(0) before the end", x.length(0), -1);
-        takeAll(x);
+        x.takeAll();
         dueFrame("a frame", x, 0, 3, true);
         due("length(1)", x.length(1), -1);
         due("whole(1)", x.whole(1), false);
@@ -710,7 +619,7 @@ public final class PromisesTest {
             due("whole(" + k + ")", x.whole(k), false);
         }
         due("frame() of none", x.frame(), 4);
-        takeAll(x);
+        x.takeAll();
         dueFrame("the oldest", x, 0, 3, true);
         dueFrame("a frame of none", x, 1, 0, true);
         due("count(4)", x.count(4), 2);
@@ -719,118 +628,74 @@ public final class PromisesTest {
     }
 
     private static void framesBroken() {
-        CodedGroups x = inStep();
-        sign(x, 251);
-        plain(x, 1);
-        bad(x);
-        plain(x, 2);
-        takeAll(x);
+        Run x = inStep();
+        x.sign(251).plain(1).bad().plain(2).takeAll();
         due("a bad group does not end it", x.count(5), 0);
-        sign(x, 253);
-        sign(x, 247);
-        takeAll(x);
+        x.sign(253, 247).takeAll();
         dueFrame("with a bad group", x, 0, 2, false);
         due("at(0, 1) behind the bad group", x.at(0, 1), 2);
-        sign(x, 251);
-        plain(x, 3);
-        sign(x, 251);
-        takeAll(x);
+        x.sign(251).plain(3).sign(251).takeAll();
         dueFrame("with a beginning inside", x, 1, 1, false);
         due("the new one is under way", x.count(5), 2);
-        plain(x, 4);
-        plain(x, 5);
-        sign(x, 253);
-        sign(x, 247);
-        takeAll(x);
+        x.plain(4, 5).sign(253, 247).takeAll();
         dueFrame("the one that began there", x, 2, 2, true);
         int[] others = {247, 254, 28, 92};
         for (int i = 0; i < others.length; i++) {
-            sign(x, 251);
-            plain(x, 6);
-            sign(x, others[i]);
-            takeAll(x);
+            x.sign(251).plain(6).sign(others[i]).takeAll();
             dueFrame("with the sign " + others[i], x, 3 + i, 1, false);
         }
-        plain(x, 7);
-        sign(x, 253);
-        sign(x, 247);
-        takeAll(x);
+        x.plain(7).sign(253, 247).takeAll();
         due("no frame, no end", x.count(5), 7);
         due("count(6)", x.count(6), 1);
     }
 
     private static void framesClosed() {
-        CodedGroups x = inStep();
-        sign(x, 251);
-        sign(x, 253);
-        plain(x, 9);
-        takeAll(x);
+        Run x = inStep();
+        x.sign(251, 253).plain(9).takeAll();
         dueFrame("a byte behind the close", x, 0, 0, false);
-        sign(x, 251);
-        plain(x, 1);
-        sign(x, 253);
-        sign(x, 251);
-        takeAll(x);
+        x.sign(251).plain(1).sign(253, 251).takeAll();
         dueFrame("a beginning behind the close", x, 1, 1, false);
-        plain(x, 2);
-        sign(x, 253);
-        sign(x, 253);
-        takeAll(x);
+        x.plain(2).sign(253, 253).takeAll();
         dueFrame("it begins a frame, which ends with a second close", x, 2, 1, false);
-        sign(x, 247);
-        takeAll(x);
+        x.sign(247).takeAll();
         due("and the end behind that is none", x.count(5), 3);
-        sign(x, 251);
-        sign(x, 253);
-        bad(x);
-        takeAll(x);
+        x.sign(251, 253).bad().takeAll();
         dueFrame("a bad group behind the close", x, 3, 0, false);
-        sign(x, 247);
-        takeAll(x);
+        x.sign(247).takeAll();
         due("and the end behind that is none", x.count(5), 4);
-        sign(x, 251);
-        sign(x, 253);
-        plain(x, 247);
-        takeAll(x);
+        x.sign(251, 253).plain(247).takeAll();
         dueFrame("247 that is no sign", x, 4, 0, false);
-        sign(x, 251);
-        sign(x, 253);
-        sign(x, 28);
-        takeAll(x);
+        x.sign(251, 253, 28).takeAll();
         dueFrame("another sign behind the close", x, 5, 0, false);
-        sign(x, 251);
-        sign(x, 253);
-        sign(x, 247);
-        sign(x, 247);
-        takeAll(x);
+        x.sign(251, 253, 247, 247).takeAll();
         dueFrame("whole at last", x, 6, 0, true);
         due("the second 247 ends none", x.count(5), 7);
         due("count(6)", x.count(6), 1);
     }
 
-    private static CodedGroups withFrameOf(int bytes) {
-        CodedGroups x = inStep();
+    private static Run withFrameOf(int bytes) {
+        Run x = inStep();
         for (int i = 0; i < bytes; i++) {
             x.feed(i % 251);
         }
         due("frame()", x.frame() >= bytes + 3, true);
-        takeAll(x);
+        x.takeAll();
         return x;
     }
 
     private static void framesLongest() {
-        CodedGroups x = withFrameOf(300);
+        Run x = withFrameOf(300);
         dueFrame("300 bytes", x, 0, 300, true);
         due("at(0, 299)", x.at(0, 299), 299 % 251);
         due("at(0, 300)", x.at(0, 300), -1);
-        CodedGroups y = withFrameOf(301);
+        Run y = withFrameOf(301);
         dueFrame("301 bytes", y, 0, 300, false);
         due("at(0, 299)", y.at(0, 299), 299 % 251);
         due("at(0, 300)", y.at(0, 300), -1);
         due("count(5)", y.count(5), 1);
         y.feed(77);
         y.frame();
-        takeAll(y);
+        y.takeAll();
         dueFrame("one behind it", y, 1, 1, true);
         due("at(1, 0)", y.at(1, 0), 77);
         for (int i = 0; i < 300; i += 4) {
@@ -839,22 +704,19 @@ public final class PromisesTest {
     }
 
     private static void framesKept() {
-        CodedGroups x = inStep();
+        Run x = inStep();
         for (int n = 0; n < 40; n++) {
             x.feed(100 + n);
             x.frame();
         }
-        takeAll(x);
+        x.takeAll();
         due("count(4) of 40", x.count(4), 40);
         due("at(0, 0)", x.at(0, 0), 100);
         due("at(39, 0)", x.at(39, 0), 139);
         due("length(40)", x.length(40), -1);
-        sign(x, 251);
-        plain(x, 1);
-        takeAll(x);
+        x.sign(251).plain(1).takeAll();
         due("one under way drives none out", x.at(0, 0), 100);
-        sign(x, 28);
-        takeAll(x);
+        x.sign(28).takeAll();
         due("count(4) of 41", x.count(4), 40);
         due("count(5) of 41", x.count(5), 41);
         due("count(6) of 41", x.count(6), 40);
@@ -867,7 +729,7 @@ public final class PromisesTest {
             x.feed(200 - n);
             x.frame();
         }
-        takeAll(x);
+        x.takeAll();
         due("count(4) of 86", x.count(4), 40);
         due("count(5) of 86", x.count(5), 86);
         due("count(6) of 86", x.count(6), 85);
@@ -878,33 +740,28 @@ public final class PromisesTest {
     }
 
     private static void framesWhenSearchingAgain() {
-        CodedGroups x = inStep();
-        sign(x, 251);
-        plain(x, 1);
+        Run x = inStep();
+        x.sign(251).plain(1);
         for (int i = 0; i < 3; i++) {
-            bad(x);
+            x.bad();
         }
-        takeAll(x);
+        x.takeAll();
         due("count(5) while in step", x.count(5), 0);
-        bad(x);
-        takeAll(x);
+        x.bad().takeAll();
         due("level()", x.level(), 0);
         dueFrame("open when it searches again", x, 0, 1, false);
         due("count(5)", x.count(5), 1);
         x.idle();
         x.idle();
         x.idle();
-        plain(x, 2);
-        sign(x, 253);
-        sign(x, 247);
-        takeAll(x);
+        x.plain(2).sign(253, 247).takeAll();
         due("level() again", x.level(), 3);
         due("no frame goes on behind a search", x.count(5), 1);
     }
 
     // Promise 18
     private static void at() {
-        CodedGroups x = inStep();
+        Run x = inStep();
         due("at(0, 0) of none", x.at(0, 0), -1);
         x.feed(0);
         x.feed(255);
@@ -914,7 +771,7 @@ public final class PromisesTest {
         x.frame();
         x.feed(200);
         x.frame();
-        takeAll(x);
+        x.takeAll();
         int[] want = {0, 255, 128, 127, 1};
         for (int i = 0; i < want.length; i++) {
             due("at(0, " + i + ")", x.at(0, i), want[i]);
@@ -931,7 +788,7 @@ public final class PromisesTest {
 
     // Promise 19
     private static void decode() {
-        CodedGroups x = new CodedGroups();
+        Run x = new Run(CHECK);
         due("decode of 74", x.decode(0b0101010101, -1), 74);
         due("decode of 74 with +", x.decode(0b0101010101, 1), 74);
         due("decode of the sign 188", x.decode(0b0011111010, -1), 444);
@@ -954,23 +811,21 @@ public final class PromisesTest {
 
     // Promise 20
     private static void count() {
-        CodedGroups x = inStep();
+        Run x = inStep();
         due("count(0)", x.count(0), 6);
         due("count(1)", x.count(1), 6);
-        bits(x, "11111");
+        x.bits("11111");
         due("count(0): bits are no groups", x.count(0), 6);
-        bits(x, "10000");
-        plain(x, 74);
+        x.bits("10000").plain(74);
         x.take(15);
         due("count(1): a part is no group", x.count(1), 7);
         due("count(2)", x.count(2), 1);
-        takeAll(x);
+        x.takeAll();
         due("count(1)", x.count(1), 8);
         for (int i = 0; i < 3; i++) {
-            bad(x);
+            x.bad();
         }
-        bits(x, "0101010101 0101010101");
-        takeAll(x);
+        x.bits("0101010101 0101010101").takeAll();
         due("level()", x.level(), 0);
         due("count(1): while it searches none is taken", x.count(1), 11);
         due("count(2)", x.count(2), 4);
