@@ -579,12 +579,18 @@ public final class CodedGroups {
         }
 
         private void begin() {
+            if (slot < 0 || slot >= SLOTS) {
+                return;
+            }
             lengths[slot] = 0;
             broken = false;
             state = OPEN;
         }
 
         private void addByte(int b) {
+            if (slot < 0 || slot >= SLOTS) {
+                return;
+            }
             int i = lengths[slot];
             if (i < 0 || i >= BYTES_MOST) {
                 broken = true;
@@ -597,6 +603,9 @@ public final class CodedGroups {
         }
 
         private void finish(boolean asWhole) {
+            if (slot < 0 || slot >= SLOTS) {
+                return;
+            }
             wholes[slot] = asWhole;
             slot = slot + 1 < SLOTS ? slot + 1 : 0;
             state = NO_FRAME;

@@ -32,6 +32,7 @@ public final class LineEdgesTest {
         takeOfAnEmptyLine();
         lineGoesOnBehindWhatWasTaken();
         turnAndDropBehindWhatWasTaken();
+        call512IsTheLast();
         CHECK.end();
     }
 
@@ -338,5 +339,13 @@ public final class LineEdgesTest {
                 x.drop(i);
             }, without(wrappedBits(), i));
         }
+    }
+
+    // "An object is used for at most 512 calls"
+    private static void call512IsTheLast() {
+        Run x = new Run(CHECK).bits("1".repeat(510));
+        due("size(), the 511th call", x.size(), 510);
+        due("line(509), the 512th call", x.line(509), 1);
+        due("calls left", x.callsLeft(), 0);
     }
 }
