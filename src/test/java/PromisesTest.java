@@ -5,6 +5,7 @@ public final class PromisesTest {
 
     public static void main(String[] args) {
         newObject();
+        newObjectBesideAnother();
         send();
         idle();
         feed();
@@ -84,6 +85,24 @@ public final class PromisesTest {
         }
         due("take(8000) at first", x.take(8000), 0);
         due("frame() with an empty tape", x.frame(), 4);
+    }
+
+    private static void newObjectBesideAnother() {
+        Run one = inStep().sign(251).plain(1).feeds(2, 0);
+        one.take(15);
+        Run other = new Run(CHECK);
+        due("size() of a new object", other.size(), 0);
+        due("level() of a new object", other.level(), 0);
+        due("frame(): its tape is empty", other.frame(), 4);
+        other.bad(2).takeAll();
+        due("level() of the first one", one.level(), 3);
+        due("size() of the first one", one.size(), 5);
+        due("count(1) of the first one", one.count(1), 7);
+        due("disparity(0) of the first one", one.disparity(0), -1);
+        one.sign(253, 247).takeAll();
+        dueFrame("the first one's frame", one, 0, 1, true);
+        due("count(4) of the other", other.count(4), 0);
+        due("frame(): the first one's tape", one.frame(), 6);
     }
 
     // Promise 2
@@ -496,32 +515,17 @@ public final class PromisesTest {
         Run x = inStep();
         x.bad().bad().takeAll();
         due("trust() behind two bad groups", x.trust(), 2);
-        for (int i = 1; i <= 3; i++) {
-            x.plain(74);
-        }
-        x.takeAll();
+        x.good(3).takeAll();
         due("trust() behind three good ones", x.trust(), 2);
         x.plain(74).takeAll();
         due("trust() behind the fourth", x.trust(), 3);
-        for (int i = 1; i <= 3; i++) {
-            x.plain(74);
-        }
-        x.bad().takeAll();
+        x.good(3).bad().takeAll();
         due("trust() behind three good ones and a bad one", x.trust(), 2);
-        for (int i = 1; i <= 3; i++) {
-            x.plain(74);
-        }
-        x.takeAll();
+        x.good(3).takeAll();
         due("three behind a bad one: the row began anew", x.trust(), 2);
-        for (int i = 1; i <= 5; i++) {
-            x.plain(74);
-        }
-        x.takeAll();
+        x.good(5).takeAll();
         due("trust() behind eight in a row", x.trust(), 4);
-        for (int i = 1; i <= 8; i++) {
-            x.plain(74);
-        }
-        x.takeAll();
+        x.good(8).takeAll();
         due("trust() is 4 at most", x.trust(), 4);
         x.bad().takeAll();
         due("trust() behind a bad one then", x.trust(), 3);
@@ -532,21 +536,12 @@ public final class PromisesTest {
         Run x = inStep();
         x.bad().plain(74, 74).sign(188).takeAll();
         due("trust() behind a bad group and a comma at an odd place", x.trust(), 2);
-        for (int i = 1; i <= 3; i++) {
-            x.plain(74);
-        }
-        x.takeAll();
+        x.good(3).takeAll();
         due("trust() behind three good ones", x.trust(), 2);
         x.plain(74).takeAll();
         due("trust() behind the fourth", x.trust(), 3);
         Run again = inStep();
-        for (int i = 0; i < 4; i++) {
-            again.bad();
-        }
-        again.idle();
-        again.idle();
-        again.idle();
-        again.takeAll();
+        again.bad(4).idles(3).takeAll();
         due("trust() of a second step", again.trust(), 4);
         due("level() of it", again.level(), 3);
     }
@@ -590,9 +585,7 @@ public final class PromisesTest {
         due("count(7) with it", x.count(7), 0);
         due("symbol(0) with it", x.symbol(0), -1);
         Run y = inStep();
-        for (int i = 0; i < 4; i++) {
-            y.bad();
-        }
+        y.bad(4);
         y.idle();
         y.takeAll();
         due("count(7): what comes out of step is not received", y.count(7), 5);
@@ -741,19 +734,13 @@ public final class PromisesTest {
 
     private static void framesWhenSearchingAgain() {
         Run x = inStep();
-        x.sign(251).plain(1);
-        for (int i = 0; i < 3; i++) {
-            x.bad();
-        }
-        x.takeAll();
+        x.sign(251).plain(1).bad(3).takeAll();
         due("count(5) while in step", x.count(5), 0);
         x.bad().takeAll();
         due("level()", x.level(), 0);
         dueFrame("open when it searches again", x, 0, 1, false);
         due("count(5)", x.count(5), 1);
-        x.idle();
-        x.idle();
-        x.idle();
+        x.idles(3);
         x.plain(2).sign(253, 247).takeAll();
         due("level() again", x.level(), 3);
         due("no frame goes on behind a search", x.count(5), 1);
@@ -822,9 +809,7 @@ public final class PromisesTest {
         due("count(2)", x.count(2), 1);
         x.takeAll();
         due("count(1)", x.count(1), 8);
-        for (int i = 0; i < 3; i++) {
-            x.bad();
-        }
+        x.bad(3);
         x.bits("0101010101 0101010101").takeAll();
         due("level()", x.level(), 0);
         due("count(1): while it searches none is taken", x.count(1), 11);
